@@ -163,6 +163,17 @@ public final class PromisesTest {
         DUE.is("6 full", x.mixes(0, 1, 13), 0);
         DUE.is("6 full", x.of(1, 1), 8);
         DUE.is("6 missing", x.mixes(1, 0, 1), 0);
+        x.mix(1, 0, 0);
+        x.row(3, 2, 2);
+        x.put(3, 0, 20);
+        x.put(3, 1, 9);
+        DUE.is("6 to the row's very end", x.mixes(3, 0, 18), 1);
+        x.row(4, 2, 60);
+        x.put(4, 58, 11);
+        x.put(4, 59, 1);
+        DUE.is("6 to the longest row's very end", x.mixes(4, 58, 18), 1);
+        DUE.is("6 the longest row ends within a two", x.mixes(4, 59, 18), 0);
+        DUE.is("6 all of them", x.of(1, 2), 10);
         x.row(1, 3, 4);
         x.body(0);
         x.keep(2, 0);
@@ -279,6 +290,19 @@ public final class PromisesTest {
         DUE.all("19 02 and 02", 2, x.rest(0), x.rest(1));
         DUE.is("19 score", x.rest(2), 0);
         DUE.all("19 void", VOID, x.rest(3), x.rest(-1), x.rest(HIGH));
+        NineCarts turned = new NineCarts();
+        turned.village(5, 2);
+        turned.village(3, 2);
+        turned.mend(0, 0, 2);
+        turned.mend(1, 0, 2);
+        DUE.all("19 20 and 20 are not the first", 20, turned.rest(0), turned.rest(1));
+        DUE.is("19 20 against 20", turned.rest(2), 0);
+        DUE.is("17 20 is not the first", turned.safest(1, 0), 20);
+        turned.mend(0, 0, 4);
+        turned.mend(1, 0, 1);
+        DUE.is("19 22 has both for sure", turned.rest(0), 22);
+        DUE.is("19 the first of like ones", turned.rest(1), 1);
+        DUE.is("19 both", turned.rest(2), 8);
         NineCarts rings = even(3, 3, 3);
         DUE.is("18 012 beats 201", rings.ring(0), 12);
         DUE.is("18 201 beats 120", rings.ring(1), 201);
@@ -363,6 +387,71 @@ public final class PromisesTest {
         DUE.is("20 not all of baker 1's used up", less.sure(2), 0);
     }
 
+    /** One VILLAGE and up to 9 LOAVES each: the last of each row counts, too. */
+    private static void nine() {
+        DUE.is("21 as the first thing asked", even(1, 9, 8).most(1), 1);
+        NineCarts x = even(1, 9, 8);
+        DUE.is("22 9 against 8", x.fewest(1), 9);
+        DUE.is("20 9 against 8", x.sure(9), 1);
+        DUE.is("20 8 against 8", x.sure(8), 0);
+        DUE.is("19 9 against 8", x.rest(2), 1);
+        x.mix(1, 8, 1);
+        DUE.is("12 9 against 8", x.best(0), 9);
+        DUE.is("23 9 against 8", x.year(0, 1), 9);
+        DUE.is("24 0 against 8, then 9", x.years(1), 0);
+        x.mend(1, 0, 9);
+        DUE.is("22 9 against 9", x.fewest(1), NOT);
+        DUE.is("20 9 against 9", x.sure(9), 0);
+        DUE.is("19 9 against 9", x.rest(2), 0);
+        x.mix(1, 9, 1);
+        line(x, 0, 9, 1, 2);
+        line(x, 0, 8, -1, 2);
+        DUE.is("14 9 against 8, and none against 9 is as good", x.spy(0, 0), 0);
+        DUE.is("3 the least worth", x.mend(0, 1, 1), 1);
+        x.mend(1, 0, 0);
+        x.mend(0, 0, 0);
+        x.mend(0, 2, 9);
+        DUE.is("22 not noticed below 9", x.fewest(1), 9);
+        NineCarts two = even(2, 9, 9);
+        two.mix(1, 90, 1);
+        two.mix(1, 0, 1);
+        // 90 is tied by 90 and beaten by 01 to 09 on the other side: 0; nothing is beaten twice by 11
+        line(two, 0, -1, 1, 1);
+        DUE.is("14 not worth a spy", two.spy(0, 0), 0);
+        NineCarts nines = new NineCarts();
+        nines.village(1, 0);
+        nines.village(1, 2);
+        nines.mend(0, 0, 9);
+        nines.mend(1, 0, 9);
+        nines.mix(1, 90, 1);
+        nines.mix(1, 9, 1);
+        // 90 has 1 against 90, 09 has 1 against 09, neither has more than 0 against the other
+        line(nines, 0, -1, 1, 2);
+        for (int v = 0; v < 2; v++) {
+            DUE.is("14 a spy sees 9", nines.spy(v, 0), 1);
+            DUE.is("14 a spy sees 9", nines.spy(v, 1), 2);
+        }
+    }
+
+    /** Where fewer loaves are better, it tells who must send all and who need not. */
+    private static void fewerIsBetter() {
+        NineCarts x = even(1, 3, 2);
+        Due.tell(x, "b-a+2");
+        DUE.is("19 all are sent", x.rest(0), 3);
+        DUE.is("19 all are sent", x.rest(1), 2);
+        DUE.is("19 3 against 2", x.rest(2), 1);
+        DUE.is("16 3 against 2", x.beaten(0, 3), 0);
+        DUE.is("20 3 against 0", x.sure(3), 0);
+        DUE.is("12 none is as good as one", x.best(0), 0);
+        Due.tell(x, "a-b");
+        x.mix(1, 2, 1);
+        DUE.is("14 a spy needs no more", x.spy(0, 0), 0);
+        Due.tell(x, "a=1");
+        DUE.is("12 not all are sent", x.best(0), 1);
+        line(x, 0, -1, 1, 1);
+        DUE.is("14 nor with a spy", x.spy(0, 0), 0);
+    }
+
     private static void years() {
         NineCarts x = mixed();
         DUE.is("23 first told", x.year(0, 0), 2);
@@ -399,6 +488,13 @@ public final class PromisesTest {
         x.mix(0, 0, 1);
         DUE.is("26 again", x.back(), 4);
         DUE.is("26 again", x.of(0, 1), 2);
+        x.mix(0, 0, 0);
+        x.mix(0, 20, 9);
+        x.mix(0, 20, 9);
+        DUE.is("26 partings and weights", x.back(), 4);
+        DUE.is("26 weights as they were", x.of(0, 2), 3);
+        DUE.is("26 partings as they were", x.mean(0), 5);
+        DUE.is("26 partings as they were", x.year(0, 0), 2);
         x.mix(0, 0, 0);
         DUE.is("25 another", x.image(), 2);
         x.mix(0, 20, 1);
@@ -439,16 +535,45 @@ public final class PromisesTest {
 
     private static void undoneAtMost() {
         NineCarts x = new NineCarts();
-        for (int i = 0; i < 45; i++) x.mend(i % 2, 0, i / 2 % 9);
+        int[] states = new int[46];
+        for (int i = 0; i < 45; i++) {
+            states[i] = 10 * x.of(0, 0) + x.of(1, 0);
+            x.mend(i % 2, 0, (i * i + 3) % 10);
+        }
+        states[45] = 10 * x.of(0, 0) + x.of(1, 0);
         DUE.is("27 40 are kept", x.count(2), 40);
-        for (int i = 39; i >= 0; i--) DUE.is("27", x.undo(), i);
+        for (int i = 39; i >= 0; i--) {
+            DUE.is("27", x.undo(), i);
+            DUE.is("27 as then", 10 * x.of(0, 0) + x.of(1, 0), states[5 + i]);
+        }
         DUE.is("27 none", x.undo(), STATE);
-        // after the first five: 0, 0, 1, 1, 2 for 0, 1, 0, 1, 0
-        DUE.is("27 the first five stay", x.of(0, 0), 2);
-        DUE.is("27 the first five stay", x.of(1, 0), 1);
-        for (int i = 39; i >= 0; i--) DUE.is("28", x.redo(), i);
+        for (int i = 39; i >= 0; i--) {
+            DUE.is("28", x.redo(), i);
+            DUE.is("28 as then", 10 * x.of(0, 0) + x.of(1, 0), states[45 - i]);
+        }
         DUE.is("28 none", x.redo(), STATE);
-        DUE.is("28 the 45th", x.of(0, 0), 22 % 9);
+    }
+
+    /** The oldest goes with all that it was. */
+    private static void undoneUnlike() {
+        NineCarts x = even(2, 6, 6);
+        x.mend(0, 0, 5);
+        x.mend(1, 1, 4);
+        x.mend(0, 2, 3);
+        x.mend(1, 0, 2);
+        for (int i = 0; i < 38; i++) x.mend(i % 2, 1 + i / 2 % 2, 9 - i / 4 % 2);
+        DUE.is("27 40 are kept", x.count(2), 40);
+        for (int i = 0; i < 40; i++) x.undo();
+        DUE.is("27 those ahead of the 40 stay", x.of(0, 0), 5);
+        DUE.is("27 those ahead of the 40 stay", x.of(1, 10), 4);
+        DUE.is("27", x.of(0, 11), 0);
+        DUE.is("27", x.of(1, 0), 6);
+        for (int i = 0; i < 40; i++) x.redo();
+        DUE.is("28", x.of(1, 0), 2);
+        DUE.is("28", x.of(0, 10), 8);
+        DUE.is("28", x.of(1, 10), 8);
+        DUE.is("28", x.of(0, 11), 9);
+        DUE.is("28", x.of(1, 11), 9);
     }
 
     private static void undoneScores() {
@@ -589,6 +714,8 @@ public final class PromisesTest {
         x.row(4, 3, 4);
         DUE.all("36 nothing", -11, x.shift(3, 0, 0, 0, 1), x.shift(0, 0, 3, 0, 1), x.shift(2, 0, 3, 0, 1),
             x.shift(3, 0, 2, 0, -1));
+        x.row(5, 0, 4);
+        DUE.all("36 a body is no row of bytes", -12, x.shift(2, 0, 5, 0, 1), x.shift(5, 0, 2, 0, 1));
         DUE.all("36 kinds", -12, x.shift(2, 0, 0, 0, 1), x.shift(0, 0, 2, 0, 1), x.shift(2, 0, 2, 0, 0),
             x.shift(0, 0, 4, 0, 1), x.shift(0, 0, 4, 0, -1));
     }
@@ -626,10 +753,13 @@ public final class PromisesTest {
         ringOfUnlike();
         stateOfAll();
         sure();
+        nine();
+        fewerIsBetter();
         years();
         image();
         undone();
         undoneAtMost();
+        undoneUnlike();
         undoneScores();
         bodies();
         acts();
