@@ -539,7 +539,10 @@ public final class NineCarts {
                 else if (isName(-step)) push(named(-step, a, b, w, t, v));
                 else if (step == NEGATE) push(-pop());
                 else if (step == -'!') push(pop() == 0 ? 1 : 0);
-                else joinTop(-step);
+                else {
+                    int right = pop();
+                    push(joined(-step, pop(), right));
+                }
             }
             return 0;
         }
@@ -552,12 +555,6 @@ public final class NineCarts {
                 case 't': return t;
                 default: return v;
             }
-        }
-
-        private void joinTop(int sign) {
-            int right = pop();
-            int left = pop();
-            push(joined(sign, left, right));
         }
 
         private static int joined(int sign, int left, int right) {
