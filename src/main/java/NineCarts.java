@@ -48,6 +48,8 @@ public final class NineCarts {
     public int mend(int number, int what, int v) {
         if (!town.mayBecome(number, what, v)) return BAD;
         int was = town.valueOf(number, what);
+        // What stays as it was is no CHANGE: nothing to be UNDONE, and what may be DONE AGAIN still may.
+        if (v == was) return was;
         changes.note(number, what, was, v);
         town.become(number, what, v);
         return was;
@@ -302,8 +304,8 @@ public final class NineCarts {
     public long element(int shelf, int i) {
         if (!isShelf(shelf)) return Long.MIN_VALUE;
         Shelf from = shelves[shelf];
-        int refusal = from.refusal(i);
-        return refusal != 0 ? refusal : from.elements[i];
+        // A row of longs may hold -11 to -13 as elements, so no refusal is told by its own number here.
+        return from.refusal(i) == 0 ? from.elements[i] : Long.MIN_VALUE;
     }
 
     public int shift(int shelf, int i, int other, int j, int n) {

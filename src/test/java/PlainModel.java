@@ -38,6 +38,7 @@ final class PlainModel {
         boolean village = (what == 1 || what == 2) && number >= 0 && number < villages.size();
         if (!baker && !village || v < (what == 1 ? 1 : 0) || v > 9) return BAD;
         int was = what == 0 ? loaves[number] : villages.get(number)[what - 1];
+        if (was == v) return was;
         undoable.add(new Change(number, what, was, v));
         if (undoable.size() > 40) undoable.remove(0);
         redoable.clear();
@@ -516,13 +517,12 @@ final class PlainModel {
     long element(int shelf, int i) {
         if (shelf < 0 || shelf > 5) return Long.MIN_VALUE;
         Object row = shelves[shelf];
-        if (row == null) return -11;
-        if (row instanceof PlainBodies.Baker) return -12;
+        if (row == null || row instanceof PlainBodies.Baker) return Long.MIN_VALUE;
         try {
             if (row instanceof boolean[] booleans) return booleans[i] ? 1 : 0;
             return java.lang.reflect.Array.getLong(row, i);
         } catch (ArrayIndexOutOfBoundsException e) {
-            return -13;
+            return Long.MIN_VALUE;
         }
     }
 

@@ -85,7 +85,39 @@ public final class PromisesTest {
         DUE.all("3 bad what", BAD, x.mend(0, -1, 1), x.mend(0, 3, 1), x.mend(0, LOW, 1));
         DUE.all("3 bad v", BAD, x.mend(0, 0, -1), x.mend(0, 0, 10), x.mend(0, 1, 0), x.mend(0, 1, 10),
             x.mend(0, 2, -1), x.mend(0, 2, 10), x.mend(0, 2, HIGH));
-        DUE.is("3 what was bad is no change", x.count(2), 6);
+        DUE.is("3 what was bad, or is as it was, is no change", x.count(2), 5);
+    }
+
+    /** A mend to what stands already answers it, and is no CHANGE. */
+    private static void mendToTheSame() {
+        NineCarts x = new NineCarts();
+        x.village(4, 31);
+        DUE.all("3 loaves as they were", 6, x.mend(0, 0, 6), x.mend(1, 0, 6));
+        DUE.is("3 worth as it was", x.mend(0, 1, 4), 4);
+        DUE.is("3 want as it was", x.mend(0, 2, 3), 3);
+        DUE.is("38 none may be undone", x.count(2), 0);
+        DUE.is("27 none", x.undo(), STATE);
+        x.mend(0, 0, 7);
+        x.mend(0, 1, 8);
+        x.mend(0, 2, 9);
+        DUE.is("27 of three", x.undo(), 2);
+        DUE.is("27 of three", x.undo(), 1);
+        DUE.is("3 loaves as mended", x.mend(0, 0, 7), 7);
+        DUE.is("3 worth as undone", x.mend(0, 1, 4), 4);
+        DUE.is("3 want as undone", x.mend(0, 2, 3), 3);
+        DUE.is("38 one may still be undone", x.count(2), 1);
+        DUE.is("28 none came behind", x.redo(), 1);
+        DUE.is("28 worth again", x.of(0, 10), 8);
+        DUE.is("28 none came behind", x.redo(), 0);
+        DUE.is("28 want again", x.of(0, 11), 9);
+        for (int i = 0; i < 50; i++) x.mend(0, 2, 9);
+        DUE.is("38 none of 50 is kept", x.count(2), 3);
+        for (int i = 0; i < 3; i++) x.undo();
+        DUE.is("27 the first of three", x.of(0, 0), 6);
+        DUE.is("3 another comes behind", x.mend(1, 0, 1), 6);
+        DUE.is("28 none", x.redo(), STATE);
+        DUE.is("3 back by a mend", x.mend(1, 0, 6), 1);
+        DUE.is("3 back by a mend is a change, too", x.count(2), 2);
     }
 
     private static void of() {
@@ -538,7 +570,7 @@ public final class PromisesTest {
         int[] states = new int[46];
         for (int i = 0; i < 45; i++) {
             states[i] = 10 * x.of(0, 0) + x.of(1, 0);
-            x.mend(i % 2, 0, (i * i + 3) % 10);
+            x.mend(i % 2, 0, (i / 2 * 3 + 1) % 10);
         }
         states[45] = 10 * x.of(0, 0) + x.of(1, 0);
         DUE.is("27 40 are kept", x.count(2), 40);
@@ -657,12 +689,13 @@ public final class PromisesTest {
         DUE.all("33 below 0", -14, x.row(0, 0, -1), x.row(0, 4, LOW));
         DUE.is("33 what is refused changes nothing", x.taken(0, 5), 5);
         DUE.is("33 of none", x.row(0, 2, 0), 1);
-        DUE.all("34 of none", -13, x.put(0, 0, 1), x.element(0, 0));
+        DUE.is("34 of none", x.put(0, 0, 1), -13);
+        DUE.is("35 of none", x.element(0, 0), Due.MIN);
         x.put(1, 59, 9);
         x.row(1, 0, 60);
         DUE.is("33 0 at first", x.element(1, 59), 0);
         DUE.is("32 the shelf is empty then", x.keep(1, -1), 1);
-        DUE.is("35 nothing", x.element(1, 0), -11);
+        DUE.is("35 nothing", x.element(1, 0), Due.MIN);
     }
 
     private static void elements() {
@@ -683,13 +716,20 @@ public final class PromisesTest {
             }
         }
         DUE.all("34 no place", -13, x.put(0, 8, 1), x.put(0, -1, 1), x.put(4, 60, 1), x.put(0, HIGH, 1));
-        DUE.all("35 no place", -13, x.element(0, 8), x.element(0, -1), x.element(4, LOW));
+        DUE.all("35 no place", Due.MIN, x.element(0, 8), x.element(0, -1), x.element(4, LOW), x.element(3, HIGH));
         DUE.all("34 bad", BAD, x.put(6, 0, 1), x.put(-1, 0, 1));
         DUE.all("35 bad", Due.MIN, x.element(6, 0), x.element(-1, 0));
-        DUE.all("34 nothing", -11, x.put(5, 0, 1), x.put(5, -1, 1), x.element(5, 99));
+        DUE.all("34 nothing", -11, x.put(5, 0, 1), x.put(5, -1, 1));
+        DUE.all("35 nothing", Due.MIN, x.element(5, 0), x.element(5, 99));
         x.body(0);
         x.keep(5, 0);
-        DUE.all("34 a body", -12, x.put(5, 0, 1), x.put(5, -1, 1), x.element(5, 99));
+        DUE.all("34 a body", -12, x.put(5, 0, 1), x.put(5, -1, 1));
+        DUE.all("35 a body", Due.MIN, x.element(5, 0), x.element(5, 99));
+        x.row(5, 3, 60);
+        for (int i = -14; i < 0; i++) {
+            x.put(5, 60 + i, i);
+            DUE.is("35 an element like a refusal", x.element(5, 60 + i), i);
+        }
     }
 
     private static void shift() {
@@ -741,6 +781,7 @@ public final class PromisesTest {
         newObject();
         village();
         mend();
+        mendToTheSame();
         of();
         mix();
         mixStands();

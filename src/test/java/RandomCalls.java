@@ -146,12 +146,18 @@ final class RandomCalls {
         return new Call("village", some(1, 9), below(3) == 0 ? some(0, 92) : below(3) + 10 * below(4));
     }
 
+    private Call mendToTheSame() {
+        int what = below(3);
+        int number = below(what == 0 ? 2 : Math.max(1, about.count(0)));
+        return new Call("mend", number, what, about.of(number, what == 0 ? 0 : 9 + what));
+    }
+
     private Call setting() {
         int baker = some(0, 1);
         switch (below(9)) {
             case 0: return below(4) == 0 ? village() : new Call("of", some(0, 4), some(0, 3));
             case 1: case 2: return new Call("mend", some(0, 1), 0, some(dear ? 0 : 3, dear ? 9 : 8));
-            case 3: return new Call("mend", some(0, 4), some(0, 2), some(1, 9));
+            case 3: return below(3) == 0 ? mendToTheSame() : new Call("mend", some(0, 4), some(0, 2), some(1, 9));
             case 4: case 5: case 6:
                 return new Call("mix", baker, parting(baker), below(10) == 0 ? 0 : some(1, 9));
             case 7: return below(2) == 0 ? new Call("of", some(0, 1), some(0, 3)) : new Call("of", some(0, 4), some(10, 12));
