@@ -15,6 +15,13 @@ final class Due {
         for (int i = 0; i < got.length; i++) is(what + " [" + i + "]", got[i], due);
     }
 
+    void same(String what, String got, String due) {
+        asked++;
+        if (got.equals(due)) return;
+        wrong++;
+        System.out.println(what + ": saw\n  " + got + "\ndue is\n  " + due);
+    }
+
     void end(String name) {
         System.out.println(name + ": " + asked + " answers, " + wrong + " wrong");
         if (wrong != 0 || asked == 0) System.exit(1);

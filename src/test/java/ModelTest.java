@@ -1,5 +1,3 @@
-import java.lang.reflect.InvocationTargetException;
-import java.lang.reflect.Method;
 import java.util.HashMap;
 import java.util.Map;
 import java.util.concurrent.atomic.AtomicInteger;
@@ -8,51 +6,22 @@ import java.util.stream.IntStream;
 /** Holds NineCarts against PlainModel over runs of 512 calls. */
 public final class ModelTest {
     private static final int CALLS = 512;
-    private static final Map<String, Method> FACE = methods(NineCarts.class);
-    private static final Map<String, Method> MODEL = methods(PlainModel.class);
     private static final Map<String, AtomicInteger> ANSWERED = counters();
-
-    private static Map<String, Method> methods(Class<?> of) {
-        Map<String, Method> methods = new HashMap<>();
-        for (Method method : of.getDeclaredMethods()) {
-            // a private score(int[], int[]) stands beside score(int, int)
-            boolean plain = true;
-            for (Class<?> type : method.getParameterTypes()) plain &= type == int.class || type == long.class;
-            boolean isPrivate = java.lang.reflect.Modifier.isPrivate(method.getModifiers());
-            if (plain && !isPrivate) methods.put(method.getName(), method);
-        }
-        return methods;
-    }
 
     private static Map<String, AtomicInteger> counters() {
         Map<String, AtomicInteger> counters = new HashMap<>();
-        for (String name : FACE.keySet()) counters.put(name, new AtomicInteger());
+        for (String name : Pair.face()) counters.put(name, new AtomicInteger());
         return counters;
-    }
-
-    private static long answer(Method method, Object of, RandomCalls.Call call) {
-        try {
-            return ((Number) method.invoke(of, call.args())).longValue();
-        } catch (InvocationTargetException e) {
-            throw new IllegalStateException(call.text() + " threw", e.getCause());
-        } catch (IllegalAccessException e) {
-            throw new IllegalStateException(e);
-        }
     }
 
     /** Runs calls on both; what it says is empty if all answers were alike. */
     private static String run(int seed, int wildness, boolean dear) {
-        NineCarts carts = new NineCarts();
-        PlainModel model = new PlainModel();
-        RandomCalls calls = new RandomCalls(seed, carts, wildness, dear);
-        StringBuilder told = new StringBuilder();
+        Pair pair = new Pair();
+        RandomCalls calls = new RandomCalls(seed, pair.carts, wildness, dear);
         for (int i = 0; i < CALLS; i++) {
             RandomCalls.Call call = calls.next(i);
-            long got = answer(FACE.get(call.name()), carts, call);
-            long due = answer(MODEL.get(call.name()), model, call);
-            told.append(call.text()).append(' ').append(got).append('\n');
-            if (got != due) return "seed " + seed + ", call " + i + ", due is " + due + ":\n" + told;
-            if (got >= 0) ANSWERED.get(call.name()).incrementAndGet();
+            if (!pair.alike(call)) return "seed " + seed + ": " + pair.told();
+            if (pair.latest() >= 0) ANSWERED.get(call.name()).incrementAndGet();
         }
         return "";
     }
