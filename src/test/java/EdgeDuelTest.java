@@ -161,6 +161,116 @@ public final class EdgeDuelTest {
         DUE.is("18 whatever BAKER 1 has", last.ring(0), 7002);
     }
 
+    /** Each time anew: a ring by one LAW or with so many LOAVES is none by others. */
+    private static void ringsAnew() {
+        NineCarts x = villages(3, 2, 3, 3);
+        DUE.is("18 012, 201, 120", x.ring(1), 201);
+        Due.tell(x, "0");
+        DUE.all("18 none by 0", NOT, x.ring(0), x.ring(1), x.ring(2));
+        Due.tell(x, "1");
+        DUE.is("18 the first three by 1", x.ring(2), 21);
+        Due.tell(x, "-1");
+        DUE.all("18 none by -1", NOT, x.ring(0), x.ring(1), x.ring(2));
+        Due.tell(x, "a-b");
+        DUE.is("18 as by no LAW", x.ring(1), 201);
+        x.mend(0, 0, 1);
+        DUE.is("18 three alike with 1", x.ring(0), NOT);
+        x.undo();
+        DUE.is("18 and with 3 again", x.ring(0), 12);
+        x.mend(0, 1, 9);
+        DUE.is("18 who has VILLAGE 0 has most", x.ring(0), NOT);
+    }
+
+    /**
+     * 220 PARTINGS over four VILLAGES, three of which tell by a LAW that p beats q, q beats r, r beats p alone (and
+     * what is like them in each VILLAGE); p, q, r are any of all, far apart or near.
+     */
+    private static void ringsAnywhere() {
+        int[][] all = new int[220][];
+        int size = 0;
+        for (int number = 0; number <= 9000; number++) {
+            int[] digits = {number / 1000, number / 100 % 10, number / 10 % 10, number % 10};
+            if (digits[0] + digits[1] + digits[2] + digits[3] == 9) all[size++] = digits;
+        }
+        int found = 0;
+        for (int i = 0; i < 220; i++) found += ringOf(all, i, (i * 7 + 1 + i / 2) % 220, (i * 13 + 101) % 220);
+        DUE.is("18 not too few were found: " + found, found > 150 ? 1 : 0, 1);
+    }
+
+    private static int ringOf(int[][] all, int p, int q, int r) {
+        NineCarts x = new NineCarts();
+        StringBuilder law = new StringBuilder();
+        for (int v = 0; v < 4; v++) {
+            x.village(v < 3 ? 3 : 7, 0);
+            if (v == 3) break;
+            law.append("v=").append(v).append('?');
+            law.append(pair(all[p][v], all[q][v])).append('|').append(pair(all[q][v], all[r][v])).append('|').append(pair(all[r][v], all[p][v]));
+            law.append(';');
+        }
+        x.mend(0, 0, 9);
+        x.mend(1, 0, 9);
+        DUE.is("8 " + law, Due.tell(x, law + "-1"), 1);
+        boolean[][] beats = new boolean[220][220];
+        for (int i = 0; i < 220; i++) {
+            for (int j = 0; j < 220; j++) {
+                boolean three = true;
+                for (int v = 0; v < 3; v++) {
+                    three &= is(all, v, i, j, p, q) || is(all, v, i, j, q, r) || is(all, v, i, j, r, p);
+                }
+                beats[i][j] = three;
+            }
+        }
+        int[] first = firstRing(beats);
+        for (int k = 0; k < 3; k++) {
+            int due = NOT;
+            if (first != null) due = ((all[first[k]][0] * 10 + all[first[k]][1]) * 10 + all[first[k]][2]) * 10 + all[first[k]][3];
+            DUE.is("18 " + p + " " + q + " " + r + " [" + k + "]", x.ring(k), due);
+        }
+        return first == null ? 0 : 1;
+    }
+
+    private static String pair(int a, int b) {
+        return "a=" + a + "&b=" + b;
+    }
+
+    private static boolean is(int[][] all, int v, int i, int j, int one, int other) {
+        return all[i][v] == all[one][v] && all[j][v] == all[other][v];
+    }
+
+    private static int[] firstRing(boolean[][] beats) {
+        for (int p = 0; p < beats.length; p++) {
+            for (int q = p + 1; q < beats.length; q++) {
+                for (int r = p + 1; beats[p][q] && r < beats.length; r++) {
+                    if (r != q && beats[q][r] && beats[r][p]) return new int[] {p, q, r};
+                }
+            }
+        }
+        return null;
+    }
+
+    /** Where sending nothing, or less than all, would be better than any that there is: it is none of them. */
+    private static void notAllUsed() {
+        NineCarts x = villages(1, 2, 3, 2);
+        Due.tell(x, "b-a");
+        DUE.is("16 nothing is not beaten", x.beaten(0, 0), 0);
+        DUE.is("16 2 is not beaten", x.beaten(0, 2), 0);
+        DUE.is("16 3 is", x.beaten(0, 3), 1);
+        DUE.is("17 but 3 is all there is", x.safest(0, 0), 3);
+        DUE.is("17 but 3 is all there is", x.safest(0, 1), 1);
+        DUE.is("17 of BAKER 1", x.safest(1, 0), 2);
+        x.mend(1, 0, 4);
+        DUE.is("17 of BAKER 1, more", x.safest(1, 1), 1);
+        DUE.is("16 of BAKER 1, nothing", x.beaten(1, 0), 0);
+        DUE.is("19 3 against 4", x.rest(2), 1);
+        DUE.is("21 none is sure, as nothing may be sent", x.most(1), 0);
+        NineCarts three = villages(3, 2, 4, 4);
+        Due.tell(three, "b-a");
+        three.mend(0, 0, 1);
+        DUE.is("17 one loaf after four", three.safest(0, 0), 1);
+        DUE.is("17 four loaves to one, beaten by one to the same", three.safest(1, 0), 4);
+        DUE.is("17 four loaves to one, beaten by one to the same", three.safest(1, 1), 1);
+    }
+
     /** None at rest; at rest the first of BAKER 0's, then the first of BAKER 1's. */
     private static void rests() {
         NineCarts x = villages(3, 2, 6, 6);
@@ -259,6 +369,9 @@ public final class EdgeDuelTest {
         noneOrAll();
         longestRows();
         rings();
+        ringsAnew();
+        ringsAnywhere();
+        notAllUsed();
         rests();
         sureOfOne();
         fewest();

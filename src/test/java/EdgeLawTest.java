@@ -24,14 +24,15 @@ public final class EdgeLawTest {
         x.village(4, 0);
         DUE.all("8 an empty TAPE", -100, x.law(), x.law());
         DUE.is("9 no LAW by that", x.won(0, 12), 2);
-        for (String text : new String[] {"a-b", "q", "a-", "a-b", "b-a;", ""}) {
+        for (String text : new String[] {"b-a", "q", "1-", "b-a", "a-b;", ""}) {
             Look.feed(x, text);
             DUE.is("38 bytes", x.count(1), text.length());
-            DUE.is("8 " + text, x.law(), text.equals("a-b") ? 1 : text.equals("q") || text.isEmpty() ? -100 : -100 - text.length());
+            DUE.is("8 " + text, x.law(), text.equals("b-a") ? 1 : text.equals("q") || text.isEmpty() ? -100 : -100 - text.length());
             DUE.is("8 empty then", x.count(1), 0);
             DUE.is("8 and empty again", x.law(), -100);
-            DUE.is("8 THE LAW stands", x.won(0, 12), 2);
-            DUE.is("8 THE LAW stands", x.won(0, 21), 1);
+            DUE.is("8 THE LAW stands: less takes it", x.won(0, 12), 1);
+            DUE.is("8 THE LAW stands: less takes it", x.won(0, 21), 2);
+            DUE.is("8 THE LAW stands: less takes it", x.score(2, 1), -4);
         }
         DUE.is("7 from the start", x.feed('0'), 1);
     }
@@ -106,6 +107,35 @@ public final class EdgeLawTest {
             DUE.is("8 five digits", Due.tell(new NineCarts(), "a+(" + number + ")"), -107);
             DUE.is("8 five digits behind four", Due.tell(new NineCarts(), "1234+" + number), -109);
         }
+    }
+
+    /** Each number there is counts as itself: by two smaller ones. */
+    private static void numbers() {
+        NineCarts x = world();
+        for (int number = 0; number <= 9999; number++) {
+            if (number % 100 == 0) x = world();
+            String less = "97*" + number / 97 + "+" + number % 97 + "-" + number;
+            Due.tell(x, less);
+            DUE.is("9 no less than " + number, x.won(0, 0), 0);
+            Due.tell(x, less + "+1");
+            DUE.is("9 no more than " + number, x.won(0, 0), 1);
+        }
+    }
+
+    /** All that may wait at once for what comes behind it: an | & < + * in each of six ( ), and ahead of them. */
+    private static void waiting() {
+        String text = "0|1&9<t+b*(".repeat(6) + "0|1&9<t+b*a" + "))))))";
+        NineCarts x = world();
+        // 9 < 3 + 2 * 5 is 1, and 9 < 3 + 2 * 1 is 0, and so is each further one
+        DUE.is("8 " + text, Due.tell(x, text), 1);
+        DUE.is("9 " + text, x.won(1, 52), 0);
+        // 3 < 3 + 2 * 1, too
+        Due.tell(x, text.replace('9', '3'));
+        DUE.is("9 with 3 for 9", x.won(1, 52), 1);
+        Due.tell(x, text.replace("0|", "2|"));
+        DUE.is("9 with 2 for 0", x.won(1, 52), 1);
+        Due.tell(x, text.replace("1&9<", "0&3<"));
+        DUE.is("9 with 0 for 1", x.won(1, 52), 0);
     }
 
     /** Six of ( ! - ahead of an O may be open at once, of whatever kinds; a seventh is the FAULT. */
@@ -263,6 +293,8 @@ public final class EdgeLawTest {
         places();
         eachByte();
         digits();
+        numbers();
+        waiting();
         open();
         ints();
         lines();

@@ -377,6 +377,40 @@ public final class EdgeTownTest {
         DUE.is("26 CHANGES stay", x.count(2), 2);
     }
 
+    /** Of each of eight PARTINGS on both sides each digit and the WEIGHT is kept, whatever comes in their place. */
+    private static void imageOfAll() {
+        NineCarts x = villages(5, 9, 9);
+        for (int i = 0; i < 8; i++) {
+            x.mix(0, 10000 + 1111 * (i % 3), 1 + i);
+            x.mix(1, 90000 / (int) Math.pow(10, i % 5), 9 - i);
+        }
+        String before = mixesOf(x);
+        x.image();
+        for (int time = 0; time < 2; time++) {
+            for (int baker = 0; baker <= 1; baker++) {
+                x.mix(baker, 0, 0);
+                for (int i = 0; i < 8; i++) x.mix(baker, 4005 + 10 * time, 1 + time);
+            }
+            DUE.is("26 others came in their place", before.equals(mixesOf(x)) ? 1 : 0, 0);
+            DUE.is("26", x.back(), 16);
+            DUE.same("26 each is as it was", mixesOf(x), before);
+        }
+    }
+
+    /** How much of the MIXES sends so many loaves to a VILLAGE: MEAN by a LAW of its own for each. */
+    private static String mixesOf(NineCarts x) {
+        StringBuilder text = new StringBuilder();
+        for (int v = 0; v < 5; v++) {
+            for (int n : new int[] {1, 2, 3, 5, 9}) {
+                for (String name : new String[] {"a", "b"}) {
+                    Due.tell(x, "v=" + v + "&" + name + "=" + n);
+                    text.append(' ').append(x.mean(0)).append('/').append(x.mean(1));
+                }
+            }
+        }
+        return text.toString();
+    }
+
     /** CHANGES: none, one, 40, 41; DONE AGAIN as long as no other came behind. */
     private static void changes() {
         Look.refused(DUE, "27 none", STATE, NineCarts::new, x -> x.undo(), x -> x.redo());
@@ -451,6 +485,7 @@ public final class EdgeTownTest {
         mixesFull();
         mixesRefused();
         images();
+        imageOfAll();
         changes();
         changesBehind();
         notBehind();
