@@ -133,7 +133,7 @@ public final class NineCarts {
         return town.scoreOf(told, otherTold);
     }
 
-    // ---- against a mix
+    // ---- against a mix (part 0 above, 1 below the line; Long.MIN_VALUE: BAD)
 
     public long mean(int part) {
         return broke(0, part);

@@ -277,6 +277,22 @@ public final class EdgeLawTest {
         }
     }
 
+    /** With a text neither WANT nor TIES count: above 0 BAKER 0 has it, below 0 BAKER 1, by 0 nobody. */
+    private static void signsAlone() {
+        String[] laws = {"0", "1", "-1", "a-a", "9999", "-9999", "0?1"};
+        int[] due = {0, 1, 2, 0, 1, 2, 0};
+        int[] scores = {0, 4, -4, 0, 4, -4, 0};
+        for (int wt = 0; wt <= 92; wt++) {
+            NineCarts x = new NineCarts();
+            if (x.village(4, wt) == BAD) continue;
+            for (int i = 0; i < laws.length; i++) {
+                DUE.is("8 " + laws[i], Due.tell(x, laws[i]), 1);
+                for (int ab = 0; ab <= 99; ab++) DUE.is("9 " + ab + " by " + laws[i] + ", wt " + wt, x.won(0, ab), due[i]);
+                DUE.all("10 by " + laws[i] + ", wt " + wt, scores[i], x.score(0, 0), x.score(6, 6), x.score(1, 5), x.score(5, 1));
+            }
+        }
+    }
+
     private static void wonRefused() {
         Look.everywhere(DUE, "9 no VILLAGE", BAD, x -> x.won(-1, 0), x -> x.won(5, 0), x -> x.won(LOW, 0), x -> x.won(HIGH, 0));
         Look.everywhere(DUE, "9 no loaves", BAD, x -> x.won(0, -1), x -> x.won(0, 100), x -> x.won(0, LOW), x -> x.won(0, HIGH));
@@ -299,6 +315,7 @@ public final class EdgeLawTest {
         ints();
         lines();
         names();
+        signsAlone();
         wonRefused();
         DUE.end("EdgeLawTest");
     }

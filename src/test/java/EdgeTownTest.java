@@ -30,8 +30,14 @@ public final class EdgeTownTest {
 
     /** Two objects have nothing in common: "all memory is the class's own". */
     private static void apart() {
+        String empty = Look.told(new NineCarts());
+        String busy = Look.told(Look.busy());
+        NineCarts x = new NineCarts();
+        NineCarts y = Look.busy();
         NineCarts other = Look.full();
-        DUE.same("1 untouched by another", Look.told(new NineCarts()), Look.told(new NineCarts()));
+        DUE.same("1 untouched by others", Look.told(x), empty);
+        DUE.same("1 untouched by others", Look.told(y), busy);
+        DUE.same("1 made behind others", Look.told(new NineCarts()), empty);
         DUE.is("1 another stands", other.count(0), 5);
     }
 
@@ -377,6 +383,30 @@ public final class EdgeTownTest {
         DUE.is("26 CHANGES stay", x.count(2), 2);
     }
 
+    /** AN IMAGE stays, whatever comes in between and however much of it. */
+    private static void imageStays() {
+        NineCarts x = villages(1, 6, 6);
+        x.mix(0, 4, 3);
+        x.mix(1, 3, 2);
+        DUE.is("25", x.image(), 2);
+        for (int i = 0; i < 45; i++) x.mend(i % 2, 0, i % 10);
+        for (int i = 0; i < 40; i++) x.undo();
+        for (int i = 0; i < 20; i++) x.redo();
+        for (int i = 0; i < 5; i++) x.village(1, 2);
+        for (int i = 0; i < 9; i++) x.mix(i % 2, 0, 1 + i);
+        for (int i = 0; i < 50; i++) x.body(i % 8);
+        for (int i = 0; i < 6; i++) x.row(i, i % 5, 10 * i);
+        Due.tell(x, "0");
+        Due.tell(x, "?");
+        Due.tell(x, "a-b");
+        x.mix(0, 0, 0);
+        DUE.is("26", x.back(), 2);
+        DUE.is("26 4 0 0 0 0 against 3 0 0 0 0", x.mean(0), 1);
+        DUE.is("26 4 and the new ones have 0", x.year(0, 0), 40000);
+        DUE.is("26 WEIGHT", x.of(0, 2), 3);
+        DUE.is("26 WEIGHT", x.of(1, 2), 2);
+    }
+
     /** Of each of eight PARTINGS on both sides each digit and the WEIGHT is kept, whatever comes in their place. */
     private static void imageOfAll() {
         NineCarts x = villages(5, 9, 9);
@@ -485,6 +515,7 @@ public final class EdgeTownTest {
         mixesFull();
         mixesRefused();
         images();
+        imageStays();
         imageOfAll();
         changes();
         changesBehind();

@@ -1,3 +1,8 @@
+import com.sun.source.tree.ClassTree;
+import com.sun.source.tree.CompilationUnitTree;
+import com.sun.source.tree.Tree;
+import com.sun.source.util.JavacTask;
+import com.sun.source.util.Trees;
 import java.io.IOException;
 import java.lang.reflect.Field;
 import java.lang.reflect.Method;
@@ -6,12 +11,18 @@ import java.nio.file.Files;
 import java.nio.file.Path;
 import java.util.ArrayList;
 import java.util.List;
+import java.util.Map;
 import java.util.Set;
 import java.util.TreeSet;
 import java.util.regex.Matcher;
 import java.util.regex.Pattern;
+import javax.lang.model.element.Element;
+import javax.lang.model.element.ExecutableElement;
+import javax.tools.JavaCompiler;
+import javax.tools.StandardJavaFileManager;
+import javax.tools.ToolProvider;
 
-/** What of LANGUAGE.md can be seen by a machine, by the number of its rule. */
+/** The public face, and what of LANGUAGE.md can be seen by a machine, by the number of its rule. */
 public final class RulesTest {
     private static final Due DUE = new Due();
     private static final String[] FACE = {
@@ -23,96 +34,155 @@ public final class RulesTest {
         "int body(int)", "int act(int,int,int)", "int trace(int)", "int keep(int,int)", "int row(int,int,int)",
         "int put(int,int,long)", "long element(int,int)", "int shift(int,int,int,int,int)", "int taken(int,int)",
         "int count(int)"};
+    private static final String HEADINGS = """
+        ---- villages, loaves, mixes
+        village
+        mend
+        of
+        mix
+        mixes
+        feed
+        law
+        ---- one day
+        won
+        score
+        ---- against a mix (part 0 above, 1 below the line; Long.MIN_VALUE: BAD)
+        mean
+        best
+        line
+        spy
+        broke
+        ---- by all partings
+        beaten
+        safest
+        ring
+        rest
+        sure
+        most
+        fewest
+        ---- years
+        year
+        years
+        image
+        back
+        undo
+        redo
+        ---- acts, shelves
+        body
+        act
+        trace
+        keep
+        row
+        put
+        element
+        shift
+        taken
+        count
+        """;
+    private static final Map<String, Integer> CONSTANTS =
+        Map.of("BAD", -1, "NOT", -2, "FULL", -3, "STATE", -5, "VOID", -2000000000);
 
     private static void face() {
         Set<String> due = new TreeSet<>(List.of(FACE));
         Set<String> got = new TreeSet<>();
-        Set<String> names = new TreeSet<>();
         for (Method method : NineCarts.class.getDeclaredMethods()) {
             if (Modifier.isPrivate(method.getModifiers())) continue;
             StringBuilder types = new StringBuilder();
             for (Class<?> type : method.getParameterTypes()) types.append(types.length() == 0 ? "" : ",").append(type);
             got.add(method.getReturnType() + " " + method.getName() + "(" + types + ")");
-            names.add(method.getName());
+            DUE.is("1 public alone: " + method, method.getModifiers(), Modifier.PUBLIC);
         }
-        if (!got.equals(due)) System.out.println("1: the face is " + got);
-        DUE.is("1 the face", got.equals(due) ? 1 : 0, 1);
+        DUE.same("1 the face", got.toString(), due.toString());
         DUE.is("1 one constructor", NineCarts.class.getDeclaredConstructors().length, 1);
-        DUE.is("1 final", Modifier.isFinal(NineCarts.class.getModifiers()) ? 1 : 0, 1);
-        for (Class<?> of : classes()) {
-            for (Method method : of.getDeclaredMethods()) {
-                boolean twice = of != NineCarts.class || Modifier.isPrivate(method.getModifiers());
-                DUE.is("1 " + of + " " + method.getName(), twice && names.contains(method.getName()) ? 1 : 0, 0);
-                DUE.is("11 parameters of " + method, method.getParameterCount() <= 7 ? 1 : 0, 1);
-            }
-        }
-        Set<String> open = new TreeSet<>();
-        for (Field field : NineCarts.class.getDeclaredFields()) {
-            if (!Modifier.isPrivate(field.getModifiers())) open.add(field.getName());
-        }
-        DUE.is("1 constants alone: " + open, open.equals(Set.of("BAD", "NOT", "FULL", "STATE", "VOID")) ? 1 : 0, 1);
+        DUE.is("1 public, of nothing", NineCarts.class.getConstructors()[0].getParameterCount(), 0);
+        DUE.is("1 public and final", NineCarts.class.getModifiers(), Modifier.PUBLIC | Modifier.FINAL);
+        DUE.is("1 of nothing else", NineCarts.class.getSuperclass() == Object.class ? NineCarts.class.getInterfaces().length : 1, 0);
+        DUE.same("1 without a package", NineCarts.class.getName(), "NineCarts");
     }
 
-    private static List<Class<?>> classes() {
+    private static void constants() throws IllegalAccessException {
+        int open = 0;
+        for (Field field : NineCarts.class.getDeclaredFields()) {
+            if (Modifier.isPrivate(field.getModifiers())) continue;
+            open++;
+            DUE.is("1 " + field, field.getModifiers(), Modifier.PUBLIC | Modifier.STATIC | Modifier.FINAL);
+            DUE.is("1 an int: " + field, field.getType() == int.class ? 1 : 0, 1);
+            DUE.is("1 " + field, field.getInt(null), CONSTANTS.getOrDefault(field.getName(), 0));
+        }
+        DUE.is("1 constants alone", open, CONSTANTS.size());
+    }
+
+    /** No method that is not of the face bears the name of one that is. */
+    private static void names() {
+        Set<String> names = new TreeSet<>();
+        for (String one : FACE) names.add(one.substring(one.indexOf(' ') + 1, one.indexOf('(')));
         List<Class<?>> classes = new ArrayList<>(List.of(NineCarts.class.getDeclaredClasses()));
         classes.add(NineCarts.class);
-        return classes;
-    }
-
-    private static void shapes() {
-        DUE.is("11 classes", classes().size() <= 12 ? 1 : 0, 1);
-        for (Class<?> of : classes()) {
-            int fields = 0;
-            for (Field field : of.getDeclaredFields()) {
-                boolean isStatic = Modifier.isStatic(field.getModifiers());
-                if (!isStatic) fields++;
-                DUE.is("5 " + field, isStatic && !Modifier.isFinal(field.getModifiers()) ? 1 : 0, 0);
+        for (Class<?> of : classes) {
+            for (Method method : of.getDeclaredMethods()) {
+                boolean other = of != NineCarts.class || Modifier.isPrivate(method.getModifiers());
+                DUE.is("1 " + of + " " + method.getName(), other && names.contains(method.getName()) ? 1 : 0, 0);
             }
-            DUE.is("11 fields of " + of, fields <= 20 ? 1 : 0, 1);
-            boolean inside = of != NineCarts.class;
-            DUE.is("2 " + of, inside && !Modifier.isStatic(of.getModifiers()) ? 1 : 0, 0);
         }
     }
 
-    private static void words(String code) {
-        Pattern ruled = Pattern.compile("\\b(throw|throws|try|catch|synchronized|assert|float|double|String|Object|native"
-            + "|volatile|transient|yield|var|System\\.(?!arraycopy)\\w+|\\w*Exact|equals|hashCode|toString|package|goto)\\b|->|::|@");
-        Matcher found = ruled.matcher(code);
-        while (found.find()) DUE.is("6 or 4: " + found.group(), 1, 0);
-        Matcher imported = Pattern.compile("import ([\\w.]+);").matcher(code);
-        while (imported.find()) DUE.is("4 " + imported.group(1), imported.group(1).equals("java.util.Arrays") ? 1 : 0, 1);
-        Matcher library = Pattern.compile("\\b(Arrays|Math|Integer|Long)\\.(\\w+)").matcher(code);
-        Set<String> known = Set.of("fill", "max", "min", "abs", "MIN_VALUE");
-        while (library.find()) DUE.is("4 " + library.group(), known.contains(library.group(2)) ? 1 : 0, 1);
-        Matcher endless = Pattern.compile("while \\(true\\)|for \\(;;").matcher(code);
-        while (endless.find()) DUE.is("9 " + endless.group(), 1, 0);
-    }
-
-    /** Methods by their indent: from a line that opens one to the } of the same indent. */
-    private static void lengths(List<String> lines) {
-        Pattern opens = Pattern.compile("^( {4}| {8})(?!if|for|while|switch)\\w[\\w<>\\[\\] ]*\\([^;=]*\\) \\{$");
-        int methods = 0;
-        for (int i = 0; i < lines.size(); i++) {
-            Matcher head = opens.matcher(lines.get(i));
-            if (!head.find()) continue;
-            int end = i;
-            while (!lines.get(end).equals(head.group(1) + "}")) end++;
-            methods++;
-            DUE.is("11 lines of " + lines.get(i).trim(), end - i < 60 ? 1 : 0, 1);
+    /** In the source the calls stand in the document's order, each row of them below the line that the interface says. */
+    private static void headings() throws IOException {
+        StringBuilder got = new StringBuilder();
+        Pattern told = Pattern.compile("^    (?:// (---- .*)|public (?:int|long) (\\w+)\\(.*)$");
+        for (String line : Files.readAllLines(Path.of("src/main/java/NineCarts.java"))) {
+            Matcher one = told.matcher(line);
+            if (one.matches()) got.append(one.group(1) != null ? one.group(1) : one.group(2)).append('\n');
         }
-        DUE.is("11 methods seen", methods > 100 ? 1 : 0, 1);
+        DUE.same("ahead of the calls", got.toString(), HEADINGS);
     }
 
-    public static void main(String[] args) throws IOException {
-        Path source = Path.of("src/main/java/NineCarts.java");
-        List<String> lines = Files.readAllLines(source);
-        String code = String.join("\n", lines).replaceAll("(?s)/\\*.*?\\*/", "").replaceAll("//[^\n]*", "");
+    private static List<String> classes(CompilationUnitTree unit) {
+        List<String> names = new ArrayList<>();
+        ClassTree outer = (ClassTree) unit.getTypeDecls().get(0);
+        names.add(outer.getSimpleName().toString());
+        for (Tree member : outer.getMembers()) {
+            if (member instanceof ClassTree inside) names.add(inside.getSimpleName().toString());
+        }
+        return names;
+    }
+
+    private static void source(CompilationUnitTree unit, Trees trees) {
+        DUE.is("1 one class, no package", unit.getTypeDecls().size() == 1 && unit.getPackageName() == null ? 1 : 0, 1);
+        List<String> own = classes(unit);
+        DUE.is("11 classes: " + own, own.size() <= 12 ? 1 : 0, 1);
+        RuleScanner scanner = new RuleScanner(DUE, trees, unit, own);
+        scanner.scan(unit, null);
+        DUE.is("methods were seen", scanner.methods() >= FACE.length + 1 ? 1 : 0, 1);
+        DUE.is("loops were seen", scanner.loops() > 0 ? 1 : 0, 1);
+    }
+
+    /** Recursion is private and carries its depth; calls that are none go eight deep. */
+    private static void calls(CompilationUnitTree unit, Trees trees) {
+        CallGraph graph = new CallGraph(trees, unit);
+        for (Element method : graph.methods()) {
+            DUE.is("11 calls of " + method + ": " + graph.depth(method), graph.depth(method) <= 8 ? 1 : 0, 1);
+            if (!graph.isRecursive(method)) continue;
+            boolean carried = false;
+            for (Element one : ((ExecutableElement) method).getParameters()) carried |= one.getSimpleName().contentEquals("depth");
+            boolean hidden = method.getModifiers().contains(javax.lang.model.element.Modifier.PRIVATE);
+            DUE.is("8 " + method, carried && hidden ? 1 : 0, 1);
+        }
+    }
+
+    public static void main(String[] args) throws IOException, IllegalAccessException {
         face();
-        shapes();
-        words(code);
-        lengths(lines);
-        for (int i = 0; i < code.length(); i++) {
-            if (code.charAt(i) > 127) DUE.is("4 a sign above 127", code.charAt(i), 0);
+        constants();
+        names();
+        headings();
+        JavaCompiler compiler = ToolProvider.getSystemJavaCompiler();
+        try (StandardJavaFileManager files = compiler.getStandardFileManager(null, null, null)) {
+            JavacTask task = (JavacTask) compiler.getTask(null, files, null, List.of("-proc:none", "--release", "17"), null,
+                files.getJavaFileObjects(Path.of("src/main/java/NineCarts.java")));
+            CompilationUnitTree unit = task.parse().iterator().next();
+            task.analyze();
+            source(unit, Trees.instance(task));
+            calls(unit, Trees.instance(task));
         }
         DUE.end("RulesTest");
     }
